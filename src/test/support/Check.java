@@ -18,6 +18,14 @@ final class Check {
         }
     }
 
+    static void same(String what, String got, String due) {
+        asked++;
+        if (!got.equals(due)) {
+            wrong++;
+            System.out.println(what + " left\n" + got + "\ndue is\n" + due);
+        }
+    }
+
     static void refuses(String what, Class<? extends RuntimeException> due, Call call) {
         asked++;
         String got;
