@@ -806,12 +806,15 @@ public final class PageTurner {
         }
 
         int changePrice(int what, int price) {
-            if (!hasPrice(what)) {
-                return NONE;
+            int old = priceOf(what);
+            if (hasPrice(what)) {
+                prices[what] = price;
             }
-            int old = prices[what];
-            prices[what] = price;
             return old;
+        }
+
+        private int priceOf(int what) {
+            return hasPrice(what) ? prices[what] : NONE;
         }
 
         int latestTime() {
@@ -878,10 +881,14 @@ public final class PageTurner {
             notes++;
         }
 
+        private boolean hasRow(int event) {
+            return event >= 0 && event < arrivals.length && event < departures.length;
+        }
+
         private void makeSilentMoves() {
             // the cheapest jump is that from THE PLACE, ahead of all other moves
-            int jump = now.placeCost + prices[JUMP];
-            for (int event = 0; event < score.events && event < arrivals.length; event++) {
+            int jump = now.placeCost + priceOf(JUMP);
+            for (int event = 0; event < score.events && hasRow(event); event++) {
                 int standing = now.costAt(score.fact(event, Score.FIRST_STATE));
                 boolean marked = score.fact(event, Score.MARKED) == 1;
                 arrivals[event] = marked ? Math.min(standing, jump) : standing;
@@ -899,7 +906,7 @@ public final class PageTurner {
             int least = Moment.FAR;
             for (int bits = 1; bits <= all; bits++) {
                 int missing = Integer.bitCount(all - bits);
-                least = Math.min(least, now.costAt(first + bits) + missing * prices[LEFT]);
+                least = Math.min(least, now.costAt(first + bits) + missing * priceOf(LEFT));
             }
             return least;
         }
@@ -907,9 +914,9 @@ public final class PageTurner {
         /** One walk along the events; true if a repeat led back cheaper, so that another is due. */
         private boolean walkOn() {
             boolean changed = false;
-            for (int event = 0; event < score.events && event < arrivals.length; event++) {
+            for (int event = 0; event < score.events && hasRow(event); event++) {
                 int missing = score.fact(event, Score.PITCHES);
-                int leaving = Math.min(departures[event], arrivals[event] + missing * prices[LEFT]);
+                int leaving = Math.min(departures[event], arrivals[event] + missing * priceOf(LEFT));
                 arrive(event + 1, leaving);
                 if (arrive(score.fact(event, Score.BEHIND), leaving)) {
                     changed = true;
@@ -919,7 +926,7 @@ public final class PageTurner {
         }
 
         private boolean arrive(int event, int cost) {
-            if (event < 0 || event >= arrivals.length || !score.has(event) || cost >= arrivals[event]) {
+            if (!hasRow(event) || !score.has(event) || cost >= arrivals[event]) {
                 return false;
             }
             arrivals[event] = cost;
@@ -927,7 +934,7 @@ public final class PageTurner {
         }
 
         private void takeNote(int event, int note, Moment next) {
-            if (event < 0 || event >= arrivals.length) {
+            if (!hasRow(event)) {
                 return;
             }
             int first = score.fact(event, Score.FIRST_STATE);
@@ -936,10 +943,10 @@ public final class PageTurner {
             boolean ornament = score.fact(event, Score.KIND) == Score.ORNAMENT;
             for (int bits = 0; bits <= all; bits++) {
                 int cost = bits == 0 ? arrivals[event] : now.costAt(first + bits);
-                next.offer(first + bits, cost + prices[ADDED]);
+                next.offer(first + bits, cost + priceOf(ADDED));
                 if (bits != all) {
                     int withLowest = bits | (bits + 1);
-                    next.offer(first + withLowest, cost + prices[WRONG]);
+                    next.offer(first + withLowest, cost + priceOf(WRONG));
                 }
                 if (right != 0 && (ornament || (bits & right) == 0)) {
                     next.offer(first + (bits | right), cost);

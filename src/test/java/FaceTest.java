@@ -86,6 +86,9 @@ public final class FaceTest {
             yes("no " + word, !there);
         }
         yes("one import", code.split("\\bimport\\b", -1).length == 2);
+        boolean fixed = java.util.regex.Pattern.compile("\\w\\[[A-Z0-9]\\w*\\]")
+            .matcher(code.replaceAll("new \\w+\\[.*?\\]", "")).find();
+        yes("no index that is a constant, not looked at", !fixed);
         String[] lines = source.split("\n");
         for (int i = 0; i < lines.length; i++) {
             yes("a line of 120 signs at most, line " + (i + 1), lines[i].length() <= 120);
